@@ -407,6 +407,7 @@ public final class DrawnSlivers {
             scaled = scaled * 2.0;
             exponent--;
         }
+        // The fraction has 52 bits, as many as this power of 2 has zeros.
         long fraction = (long) ((scaled - 1.0) * 4503599627370496.0);
         return (exponent << 52) + fraction;
     }
@@ -422,6 +423,7 @@ public final class DrawnSlivers {
             scaled = scaled * 2.0f;
             exponent--;
         }
+        // The fraction has 23 bits, as many as this power of 2 has zeros.
         int fraction = (int) ((scaled - 1.0f) * 8388608.0f);
         return (exponent << 23) + fraction;
     }

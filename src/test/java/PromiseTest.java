@@ -247,6 +247,14 @@ public final class PromiseTest {
         }
         DrawnSlivers y = fed("20*40");
         Check.same("run 40", y.run(40), 40);
+        DrawnSlivers last = new DrawnSlivers();
+        put(last, 7, "20,21*38,22");
+        last.feed(128);
+        last.out(6);
+        Check.same("run from a full last can", last.run(1), 1);
+        Check.same("its front is taken", last.metre(7, 0), 21);
+        Check.same("its back is there", last.metre(7, 38), 22);
+        Check.same("one less", last.can(7, 0), 39);
         DrawnSlivers z = fed("20*40");
         Check.same("run 39", z.run(39), 39);
         Check.same("one is left", z.can(0, 0), 1);
@@ -558,6 +566,10 @@ public final class PromiseTest {
             y.undo();
         }
         Check.same("all is restored", looks(y), stopped);
+        y.undo();
+        Check.same("the lap is undone", y.count(3) + y.count(5) + y.count(6), 0);
+        Check.same("the step is undone", y.count(0) + y.count(4) + y.count(10), 0);
+        Check.same("the metre is back", sliver(y, 0), "999,20,20");
     }
 
     private static void can() {
