@@ -3,12 +3,22 @@ final class Check {
     private static final int MOST_PRINTED = 40;
     private static int checks = 0;
     private static int wrong = 0;
+    /** What is told ahead of each wrong answer. */
+    private static String place = "";
 
     interface Call {
         long answer();
     }
 
     private Check() {
+    }
+
+    static void at(String newPlace) {
+        place = newPlace;
+    }
+
+    static int checks() {
+        return checks;
     }
 
     static void same(String what, long got, long due) {
@@ -49,7 +59,7 @@ final class Check {
     static void fail(String what) {
         wrong++;
         if (wrong <= MOST_PRINTED) {
-            System.out.println(what);
+            System.out.println(place + what);
         }
     }
 

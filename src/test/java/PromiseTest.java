@@ -1,7 +1,5 @@
 /** For each promise of the document: ordinary inputs, the edges that it names, and wrong inputs. */
-public final class PromiseTest {
-    private static final int LOW = Integer.MIN_VALUE;
-    private static final int HIGH = Integer.MAX_VALUE;
+public final class PromiseTest extends Slivers {
 
     public static void main(String[] args) {
         newObject();
@@ -35,62 +33,6 @@ public final class PromiseTest {
         looksChangeNothing();
         throwsChangeNothing();
         Check.end("PromiseTest");
-    }
-
-    private static void type(DrawnSlivers x, String text) {
-        for (int i = 0; i < text.length(); i++) {
-            x.append(text.charAt(i));
-        }
-    }
-
-    private static int put(DrawnSlivers x, int can, String text) {
-        type(x, text);
-        return x.fill(can);
-    }
-
-    private static DrawnSlivers typed(String text) {
-        DrawnSlivers x = new DrawnSlivers();
-        type(x, text);
-        return x;
-    }
-
-    /** An object whose can 0 has the sliver and is fed. */
-    private static DrawnSlivers fed(String text) {
-        DrawnSlivers x = new DrawnSlivers();
-        put(x, 0, text);
-        x.feed(1);
-        return x;
-    }
-
-    private static String sliver(DrawnSlivers x, int can) {
-        StringBuilder all = new StringBuilder();
-        for (int metre = 0; x.metre(can, metre) != DrawnSlivers.NONE; metre++) {
-            all.append(metre == 0 ? "" : ",").append(x.metre(can, metre));
-        }
-        return all.toString();
-    }
-
-    private static String feelerOf(DrawnSlivers x) {
-        StringBuilder all = new StringBuilder();
-        for (int ago = 0; ago <= 6; ago++) {
-            all.append(ago == 0 ? "" : ",").append(x.feeler(ago));
-        }
-        return all.toString();
-    }
-
-    /** All that the looks tell of the state, without the number of saved states. */
-    private static String looks(DrawnSlivers x) {
-        StringBuilder all = new StringBuilder();
-        for (int what = 0; what <= 10; what++) {
-            all.append(x.count(what)).append(' ');
-        }
-        for (int setting = 0; setting <= 4; setting++) {
-            all.append(x.setting(setting)).append(' ');
-        }
-        for (int can = 0; can < 8; can++) {
-            all.append('[').append(sliver(x, can)).append(']');
-        }
-        return all.append(feelerOf(x)).toString();
     }
 
     private static void newObject() {
@@ -536,24 +478,28 @@ public final class PromiseTest {
         Check.same("undo leaves the snapshot", y.goBack(), 0);
     }
 
+    private static String slivers(DrawnSlivers x) {
+        return x.count(7) + ":" + sliver(x, 0) + ";" + sliver(x, 1) + ";" + sliver(x, 2);
+    }
+
     private static void undo() {
         DrawnSlivers x = new DrawnSlivers();
         Check.badState("undo of nothing", x::undo);
         String[] states = new String[10];
         for (int i = 0; i < 8; i++) {
-            states[i] = looks(x);
+            states[i] = slivers(x);
             put(x, i % 3, Integer.toString(i + 1));
             Check.same("saved " + i, x.count(11), Math.min(6, i + 1));
         }
         for (int left = 5; left >= 0; left--) {
             Check.same("undo leaves " + left, x.undo(), left);
-            Check.same("restored " + left, looks(x), states[left + 2]);
+            Check.same("restored " + left, slivers(x), states[left + 2]);
         }
         Check.badState("the oldest are dropped", x::undo);
         x.tip(0);
         Check.same("saved anew", x.count(11), 1);
         Check.same("undo anew", x.undo(), 0);
-        Check.same("the tipped one is back", looks(x), states[2]);
+        Check.same("the tipped one is back", slivers(x), states[2]);
 
         DrawnSlivers y = fed("999,20,20");
         y.run(9);
@@ -866,7 +812,8 @@ public final class PromiseTest {
             for (int what = 0; what <= 7; what++) {
                 hash = mix(hash, x.can(can, what));
             }
-            for (int metre = 0; metre < x.can(can, 0); metre++) {
+            int metres = x.can(can, 0);
+            for (int metre = 0; metre < metres; metre++) {
                 hash = mix(hash, x.metre(can, metre));
             }
             hash = mix(hash, Double.doubleToLongBits(x.mean(can)));
@@ -891,28 +838,36 @@ public final class PromiseTest {
         return hash;
     }
 
-    private static void digest() {
+    private static DrawnSlivers readyToRun() {
         DrawnSlivers x = new DrawnSlivers();
-        Check.same("digest of a new one", x.digest(), digestOf(x, false, ""));
         put(x, 0, "20,33*5,41,0*2,97");
         put(x, 1, "30*12,999");
         put(x, 2, "1,0*39");
         put(x, 5, "1,0*2");
         x.feed(3);
         x.set(0, 2);
-        Check.same("digest of slivers", x.digest(), digestOf(x, false, ""));
+        return x;
+    }
+
+    private static void digest() {
+        DrawnSlivers first = new DrawnSlivers();
+        Check.same("digest of a new one", first.digest(), digestOf(first, false, ""));
+        DrawnSlivers ready = readyToRun();
+        Check.same("digest of slivers", ready.digest(), digestOf(ready, false, ""));
+        DrawnSlivers x = readyToRun();
         x.run(7);
         x.keep();
         x.tip(5);
         Check.same("digest with a snapshot", x.digest(), digestOf(x, true, ""));
         type(x, "12*3,~!");
-        Check.same("digest with a buffer", x.digest(), digestOf(x, true, "12*3,~!"));
         x.goBack();
         x.undo();
         x.undo();
         Check.same("digest behind undo", x.digest(), digestOf(x, true, "12*3,~!"));
-        x.clearBuffer();
-        Check.same("digest of a cleared buffer", x.digest(), digestOf(x, true, ""));
+        DrawnSlivers cleared = typed("12*3");
+        Check.same("digest with a buffer", cleared.digest(), digestOf(cleared, false, "12*3"));
+        cleared.clearBuffer();
+        Check.same("digest of a cleared buffer", cleared.digest(), digestOf(cleared, false, ""));
         for (int metres = 1; metres <= 40; metres++) {
             for (int weight = 0; weight < 100; weight += 3) {
                 DrawnSlivers y = new DrawnSlivers();
