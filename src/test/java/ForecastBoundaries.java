@@ -32,6 +32,7 @@ final class ForecastBoundaries extends Slivers {
         for (int steps = 1; steps <= 12; steps++) {
             DrawnSlivers x = fed("20,45,60,33,80,999,20,35,0,5");
             put(x, 7, "1*9");
+            x.run(2);
             x.set(0, 2);
             int waste = x.count(6);
             int[] told = new int[5];
@@ -260,6 +261,8 @@ final class ForecastBoundaries extends Slivers {
     }
 
     private static void justSoMany() {
+        Check.same("one, though two would fit", fronts(50, 30, 55).bestFeed(1), 4);
+        Check.same("two, though one would fit", fronts(50, 80, 55).bestFeed(2), 5);
         DrawnSlivers x = fronts(80, 0, 80, 0);
         Check.same("one that fits", x.bestFeed(1), 1);
         Check.same("two that fit", x.bestFeed(2), 3);
@@ -645,6 +648,10 @@ final class ForecastBoundaries extends Slivers {
         y.set(1, 1);
         put(y, 7, "40");
         sameDigest("just ten steps, by why then", y);
+        DrawnSlivers lags = fed("40,47,47,40,40,27,20,20,27,27,40,20");
+        lags.set(1, 2);
+        Check.same("each length has its lag", lags.bestLag(9) + " " + lags.bestLag(10) + " " + lags.bestLag(11), "4 5 6");
+        sameDigest("ten steps, by the best lag", lags);
         DrawnSlivers z = drawnBy(4, "20*11");
         sameDigest("full behind ten steps", z);
     }

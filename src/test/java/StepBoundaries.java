@@ -8,6 +8,7 @@ final class StepBoundaries extends Slivers {
         Sentence.holds(STEP, "told as a mask (the bit k for the can k), at first none", StepBoundaries::mask);
         Sentence.holds(STEP, "one can takes what comes out, at first the can 7", StepBoundaries::takerAtFirst);
         Sentence.holds(STEP, "The front metre of each can that is fed is taken", StepBoundaries::frontsAreTaken);
+        Sentence.holds(STEP, "The front metre of each can that is fed is taken", StepBoundaries::frontsOfFullOnes);
         Sentence.holds(STEP, "the sum of their weights is the feed", StepBoundaries::sums);
         Sentence.holds(STEP, "The feeler remembers the feed.", StepBoundaries::remembers);
         Sentence.holds(STEP, "the feed of so many steps ago as setting 0", StepBoundaries::tellsLater);
@@ -55,6 +56,20 @@ final class StepBoundaries extends Slivers {
         Check.same("the last metres", x.run(40), 1);
         for (int can = 0; can < 7; can++) {
             Check.same("metres of can " + can, x.can(can, 0), can == 3 ? 2 : 0);
+        }
+    }
+
+    private static void frontsOfFullOnes() {
+        for (int can = 0; can < 8; can++) {
+            DrawnSlivers x = new DrawnSlivers();
+            put(x, can, "20,21*38,22");
+            x.feed(1 << can);
+            x.out((can + 3) % 8);
+            Check.same("a step from can " + can, x.run(1), 1);
+            Check.same("39 are left", x.can(can, 0), 39);
+            Check.same("the front, the back", x.metre(can, 0) + " " + x.metre(can, 38), "21 22");
+            Check.same("all the others", x.run(40), 39);
+            Check.same("none is left", x.can(can, 0), 0);
         }
     }
 

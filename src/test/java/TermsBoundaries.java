@@ -469,17 +469,18 @@ final class TermsBoundaries extends Slivers {
     }
 
     private static void countsAreSaved() {
-        DrawnSlivers x = fed("20,999");
+        DrawnSlivers x = fed("20,41,999");
         x.run(1);
         String before = looks(x);
-        x.run(1);
+        x.run(2);
         put(x, 5, "9*2");
         x.tip(5);
-        Check.same("counted meanwhile", x.count(0) + x.count(3) + x.count(4) + x.count(5) + x.count(6), 2 + 1 + 8 + 8 + 999 + 18);
+        Check.same("counted meanwhile", x.count(0) + x.count(3) + x.count(4) + x.count(5) + x.count(6), 3 + 1 + 8 + 8 + 999 + 18);
+        Check.same("came out meanwhile", x.count(10), 1 + 2);
         x.undo();
         x.undo();
         x.undo();
-        int[] due = {1, 1, 7, 0, 1, 0, 0, 1019, 1019, 1019, 1, 3};
+        int[] due = {1, 1, 7, 0, 1, 0, 0, 1060, 1060, 1060, 1, 3};
         for (int what = 0; what < 12; what++) {
             Check.same("count(" + what + ") again", x.count(what), due[what]);
         }
@@ -681,9 +682,23 @@ final class TermsBoundaries extends Slivers {
         refused("append to a full buffer", full(times("7", 60)), full(times("7", 60)), x -> x.append('8'));
     }
 
+    /** No state is saved, but the first of seven calls stands. */
+    private static DrawnSlivers undoneSix() {
+        DrawnSlivers x = new DrawnSlivers();
+        put(x, 3, "20,30");
+        for (int can = 0; can < 6; can++) {
+            x.out(can);
+        }
+        for (int back = 0; back < 6; back++) {
+            x.undo();
+        }
+        return x;
+    }
+
     private static void newOnes() {
         refused("goBack without a snapshot", fed("5"), fed("5"), x -> x.goBack());
         refused("undo without a state", typed("5"), typed("5"), x -> x.undo());
+        refused("undo when all are undone", undoneSix(), undoneSix(), x -> x.undo());
         refused("fill of an empty buffer", fed("5"), fed("5"), x -> x.fill(0));
     }
 

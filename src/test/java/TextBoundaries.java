@@ -140,6 +140,7 @@ final class TextBoundaries extends Slivers {
     private static void keep() {
         String section = "Promise 12";
         Sentence.holds(section, "Takes a snapshot of the state (of all that undo() would restore)", TextBoundaries::snapshotOfAll);
+        Sentence.holds(section, "Takes a snapshot of the state", TextBoundaries::keepSavesNoState);
         Sentence.holds(section, "in place of the one that was", TextBoundaries::snapshotInPlace);
         Sentence.holds(section, "Returns how many steps were done so far.", TextBoundaries::stepsAtKeep);
     }
@@ -153,10 +154,8 @@ final class TextBoundaries extends Slivers {
         x.set(0, 6);
         x.out(6);
         String kept = looks(x);
-        int saved = x.count(11);
         x.keep();
         Check.same("it changes nothing", looks(x), kept);
-        Check.same("it saves no state", x.count(11), saved);
         x.clear();
         x.feed(32);
         x.out(1);
@@ -169,6 +168,18 @@ final class TextBoundaries extends Slivers {
         x.tip(0);
         x.goBack();
         Check.same("all is as kept", looks(x), kept);
+    }
+
+    private static void keepSavesNoState() {
+        DrawnSlivers x = new DrawnSlivers();
+        x.keep();
+        Check.same("none", x.count(11), 0);
+        x.out(1);
+        x.keep();
+        x.keep();
+        Check.same("one", x.count(11), 1);
+        x.undo();
+        Check.same("undone is what was ahead of out", x.count(2), 7);
     }
 
     private static void snapshotInPlace() {
