@@ -532,8 +532,8 @@ public final class DrawnSlivers {
             if (settingOf(EVENS) == 0 || told == NONE || wanted < 1) {
                 return settingOf(DRAFT);
             }
-            // Twice told and a wanted weight over two wanted ones: so a half is rounded up.
-            int nearest = (2 * told + wanted) / (2 * wanted);
+            // Half of the divisor is added ahead: so a half is rounded up.
+            int nearest = (told + wanted / 2) / wanted;
             return Math.max(1, Math.min(MOST_DRAFT, nearest));
         }
 
